@@ -40,7 +40,7 @@ public final class SpreadParity {
             throw new IllegalStateException("the unit is lost");
         }
         history.keep(now);
-        return isThere(spot, NONE) ? now.fetch(spot) : fetchOthers(spot);
+        return now.hasUnit(spot, NONE) ? now.fetch(spot) : fetchOthers(spot);
     }
 
     public int write(int address, int value)
@@ -110,7 +110,7 @@ public final class SpreadParity {
             throw new IllegalArgumentException("the value is out of range");
         }
         int spot = Layout.spotAt(disc, place);
-        if (!isThere(spot, NONE)) {
+        if (!now.hasUnit(spot, NONE)) {
             throw new IllegalStateException("the unit is not there");
         }
         history.keep(now);
@@ -257,7 +257,12 @@ public final class SpreadParity {
             throw new IllegalArgumentException("the buffer is not a complete order text");
         }
         history.keep(now);
-        int executed = obeyOrders();
+        int executed = 0;
+        text.rewind();
+        while (executed < OrderText.CAPACITY && text.nextOrder() && canObey(text.order())) {
+            obey(text.order());
+            executed++;
+        }
         text.empty();
         return executed;
     }
@@ -277,7 +282,11 @@ public final class SpreadParity {
     }
 
     public long digest() {
-        long hash = hashOfWhole(HASH_START);
+        long hash = hashed(HASH_START, countLost(NONE));
+        hash = hashed(hash, countWrong());
+        hash = hashed(hash, now.spareDiscs());
+        hash = hashed(hash, now.lossCount());
+        hash = hashed(hash, findWorst());
         hash = hashOfDiscs(hash);
         hash = hashOfAddresses(hash);
         return hashOfUnits(hash);
@@ -309,26 +318,15 @@ public final class SpreadParity {
         return value >= 0 && value <= TOP_VALUE;
     }
 
-    // ---- what is there; "without" is a disc that is taken as failed, for a forecast, or NONE
-
-    private boolean isThere(int spot, int without) {
-        int disc = Layout.discOfSpot(spot);
-        return disc != without && now.progressOf(disc) > Layout.placeOfSpot(spot);
-    }
+    // ---- what can be found; "without" is a disc that is taken as failed, for a forecast, or NONE
 
     private boolean canBeFound(int spot, int without) {
-        int stripe = layout.stripeOfSpot(spot);
-        for (int unit = 0; unit < STRIPE_UNITS; unit++) {
-            int other = layout.spotOf(stripe, unit);
-            if (other != spot && !isThere(other, without)) {
-                return false;
-            }
-        }
-        return true;
+        return now.hasUnit(layout.nextInStripe(spot, 1), without)
+                && now.hasUnit(layout.nextInStripe(spot, 2), without);
     }
 
     private boolean isLost(int spot, int without) {
-        return !isThere(spot, without) && !canBeFound(spot, without);
+        return !now.hasUnit(spot, without) && !canBeFound(spot, without);
     }
 
     private int countLost(int without) {
@@ -341,20 +339,12 @@ public final class SpreadParity {
         return count;
     }
 
-    private boolean isSound(int disc) {
-        return now.progressOf(disc) == State.SOUND;
-    }
-
-    private boolean isBeingMended(int disc) {
-        return now.progressOf(disc) != NONE && !isSound(disc);
-    }
-
     private int findWorst() {
         int worst = NONE;
         int most = NONE;
         for (int disc = 0; disc < DISCS; disc++) {
             int count = countLost(disc);
-            if (isSound(disc) && count > most) {
+            if (now.progressOf(disc) == State.SOUND && count > most) {
                 worst = disc;
                 most = count;
             }
@@ -365,38 +355,22 @@ public final class SpreadParity {
     // ---- values
 
     private int visibleValue(int spot) {
-        return isThere(spot, NONE) ? now.valueAt(spot) : NONE;
+        return now.hasUnit(spot, NONE) ? now.valueAt(spot) : NONE;
     }
 
     private int knownValue(int spot) {
         if (isLost(spot, NONE)) {
             return NONE;
         }
-        return isThere(spot, NONE) ? now.valueAt(spot) : valueFromOthers(spot);
+        return now.hasUnit(spot, NONE) ? now.valueAt(spot) : valueFromOthers(spot);
     }
 
     private int valueFromOthers(int spot) {
-        int stripe = layout.stripeOfSpot(spot);
-        int value = 0;
-        for (int unit = 0; unit < STRIPE_UNITS; unit++) {
-            int other = layout.spotOf(stripe, unit);
-            if (other != spot) {
-                value ^= now.valueAt(other);
-            }
-        }
-        return value;
+        return now.valueAt(layout.nextInStripe(spot, 1)) ^ now.valueAt(layout.nextInStripe(spot, 2));
     }
 
     private int fetchOthers(int spot) {
-        int stripe = layout.stripeOfSpot(spot);
-        int value = 0;
-        for (int unit = 0; unit < STRIPE_UNITS; unit++) {
-            int other = layout.spotOf(stripe, unit);
-            if (other != spot) {
-                value ^= now.fetch(other);
-            }
-        }
-        return value;
+        return now.fetch(layout.nextInStripe(spot, 1)) ^ now.fetch(layout.nextInStripe(spot, 2));
     }
 
     // A write is possible in just those cases in which the unit is not lost.
@@ -407,12 +381,12 @@ public final class SpreadParity {
     private int storeData(int address, int value) {
         int data = layout.spotOfAddress(address);
         int parity = layout.parityOfAddress(address);
-        if (!isThere(data, NONE)) {
+        if (!now.hasUnit(data, NONE)) {
             int other = now.fetch(layout.otherDataOfAddress(address));
             now.store(parity, other ^ value);
             return 2;
         }
-        if (!isThere(parity, NONE)) {
+        if (!now.hasUnit(parity, NONE)) {
             now.store(data, value);
             return 1;
         }
@@ -446,7 +420,8 @@ public final class SpreadParity {
 
     private int leastBeingMended() {
         for (int disc = 0; disc < DISCS; disc++) {
-            if (isBeingMended(disc)) {
+            int progress = now.progressOf(disc);
+            if (progress != NONE && progress != State.SOUND) {
                 return disc;
             }
         }
@@ -466,12 +441,8 @@ public final class SpreadParity {
     // ---- scrubbing
 
     private boolean isWhole(int stripe) {
-        for (int unit = 0; unit < STRIPE_UNITS; unit++) {
-            if (!isThere(layout.spotOf(stripe, unit), NONE)) {
-                return false;
-            }
-        }
-        return true;
+        int parity = layout.spotOf(stripe, PARITY);
+        return now.hasUnit(parity, NONE) && canBeFound(parity, NONE);
     }
 
     private int countWrong() {
@@ -506,72 +477,45 @@ public final class SpreadParity {
 
     // ---- orders
 
-    private int obeyOrders() {
-        int executed = 0;
-        text.rewind();
-        while (executed < OrderText.CAPACITY && text.nextOrder() && obeyed(text.order())) {
-            executed++;
-        }
-        return executed;
-    }
-
-    // The reader has let nothing but numbers in their ranges pass, so the tests of the face that
-    // concern ranges are not needed here.
-    private boolean obeyed(OrderReader order) {
+    // The reader has let nothing but numbers in their ranges pass, so only what the array's state
+    // forbids is left to ask.
+    private boolean canObey(OrderReader order) {
         switch (order.orderLetter()) {
             case 'w':
-                return storedByOrder(order.orderNumber(), order.orderValue());
+                return canStore(order.orderNumber());
             case 'f':
-                return droppedByOrder(order.orderNumber());
+                return canDrop(order.orderNumber());
             case 'm':
-                return replacedByOrder(order.orderNumber());
+                return canReplace(order.orderNumber());
+            default:
+                return true;
+        }
+    }
+
+    private void obey(OrderReader order) {
+        switch (order.orderLetter()) {
+            case 'w':
+                storeData(order.orderNumber(), order.orderValue());
+                break;
+            case 'f':
+                now.dropDisc(order.orderNumber());
+                break;
+            case 'm':
+                now.replaceDisc(order.orderNumber());
+                break;
             case 's':
                 makeSteps(order.orderNumber());
-                return true;
-            case 'c':
-                scrubStripes();
-                return true;
+                break;
             default:
-                return false;
+                scrubStripes();
+                break;
         }
-    }
-
-    private boolean storedByOrder(int address, int value) {
-        boolean can = canStore(address);
-        if (can) {
-            storeData(address, value);
-        }
-        return can;
-    }
-
-    private boolean droppedByOrder(int disc) {
-        boolean can = canDrop(disc);
-        if (can) {
-            now.dropDisc(disc);
-        }
-        return can;
-    }
-
-    private boolean replacedByOrder(int disc) {
-        boolean can = canReplace(disc);
-        if (can) {
-            now.replaceDisc(disc);
-        }
-        return can;
     }
 
     // ---- hash
 
     private static long hashed(long hash, int value) {
         return 31L * hash + value;
-    }
-
-    private long hashOfWhole(long start) {
-        long hash = hashed(start, countLost(NONE));
-        hash = hashed(hash, countWrong());
-        hash = hashed(hash, now.spareDiscs());
-        hash = hashed(hash, now.lossCount());
-        return hashed(hash, findWorst());
     }
 
     private long hashOfDiscs(long start) {
@@ -623,7 +567,9 @@ public final class SpreadParity {
         }
 
         void increase(int index) {
-            put(index, at(index) + 1);
+            if (index >= 0 && index < cells.length) {
+                cells[index]++;
+            }
         }
     }
 
@@ -636,6 +582,7 @@ public final class SpreadParity {
 
         private final Row spots = new Row(STRIPES * STRIPE_UNITS);
         private final Row stripes = new Row(SPOTS);
+        private final Row units = new Row(SPOTS);
 
         Layout() {
             Row used = new Row(DISCS);
@@ -646,11 +593,16 @@ public final class SpreadParity {
                     int spot = spotAt(disc, used.at(disc));
                     used.increase(disc);
                     boolean isParity = member == stripe / DISCS;
-                    spots.put(STRIPE_UNITS * stripe + (isParity ? PARITY : data), spot);
-                    stripes.put(spot, stripe);
+                    lay(spot, stripe, isParity ? PARITY : data);
                     data += isParity ? 0 : 1;
                 }
             }
+        }
+
+        private void lay(int spot, int stripe, int unit) {
+            spots.put(STRIPE_UNITS * stripe + unit, spot);
+            stripes.put(spot, stripe);
+            units.put(spot, unit);
         }
 
         // The distances 0, 1 and 3 differ by each of 1 to 6 (modulo 7) just once: hence each two
@@ -689,6 +641,12 @@ public final class SpreadParity {
 
         int stripeOfSpot(int spot) {
             return stripes.at(spot);
+        }
+
+        // With the steps 1 and 2, these are the other two units of the stripe.
+        int nextInStripe(int spot, int step) {
+            int unit = (units.at(spot) + step) % STRIPE_UNITS;
+            return spots.at(STRIPE_UNITS * stripes.at(spot) + unit);
         }
 
         int stripesOnBoth(int disc, int other) {
@@ -737,6 +695,11 @@ public final class SpreadParity {
             row.put(SPARES, FIRST_SPARES);
         }
 
+        boolean hasUnit(int spot, int without) {
+            int disc = Layout.discOfSpot(spot);
+            return disc != without && row.at(PROGRESS + disc) > Layout.placeOfSpot(spot);
+        }
+
         int valueAt(int spot) {
             return row.at(spot);
         }
@@ -747,12 +710,12 @@ public final class SpreadParity {
 
         int fetch(int spot) {
             row.increase(READS + Layout.discOfSpot(spot));
-            return valueAt(spot);
+            return row.at(spot);
         }
 
         void store(int spot, int value) {
             row.increase(WRITES + Layout.discOfSpot(spot));
-            setValue(spot, value);
+            row.put(spot, value);
         }
 
         int progressOf(int disc) {

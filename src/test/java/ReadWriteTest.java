@@ -11,6 +11,7 @@ final class ReadWriteTest {
         whole();
         allAddresses();
         withoutData();
+        withoutEachData();
         withoutParity();
         withoutOther();
         lostUnits();
@@ -85,6 +86,26 @@ final class ReadWriteTest {
         Check.same("unit(1, 0)", x.unit(1, 0), SpreadParity.NONE);
         Check.same("peek(0)", x.peek(0), 7);
         Check.same("peek(1)", x.peek(1), 60);
+    }
+
+    private static void withoutEachData() {
+        for (int address = 0; address < 42; address++) {
+            SpreadParity x = new SpreadParity();
+            int other = address % 2 == 0 ? address + 1 : address - 1;
+            int parity = x.place(address / 2, 2);
+            x.write(address, 9000);
+            x.write(other, 21);
+            x.fail(x.place(address / 2, address % 2) / 10);
+            Check.same("read(" + address + ")", x.read(address), 9000);
+            Check.same("write(" + address + ", 17)", x.write(address, 17), 2);
+            Check.same("peek(" + address + ")", x.peek(address), 17);
+            Check.same("peek(" + other + ")", x.peek(other), 21);
+            Check.same("its parity", x.unit(parity / 10, parity % 10), 17 ^ 21);
+            Check.same("reads of the parity's disc", x.reads(parity / 10), 3);
+            Check.same("writes of the parity's disc", x.writes(parity / 10), 3);
+            Check.same("reads of the other's disc", x.reads(x.place(other / 2, other % 2) / 10), 3);
+            Check.same("writes of the other's disc", x.writes(x.place(other / 2, other % 2) / 10), 1);
+        }
     }
 
     private static void withoutParity() {
@@ -168,6 +189,20 @@ final class ReadWriteTest {
         Check.same("balance() after scrub()", x.balance(), 9.0 / 10.0);
         x.read(0);
         Check.same("balance() after read(0)", x.balance(), 9.0 / 11.0);
+        for (int stripe = 0; stripe < 7; stripe++) {
+            SpreadParity one = new SpreadParity();
+            one.scrub();
+            one.read(2 * stripe);
+            Check.same("balance() with one disc above the others", one.balance(), 9.0 / 10.0);
+        }
+        for (int disc = 0; disc < 7; disc++) {
+            SpreadParity one = new SpreadParity();
+            one.scrub();
+            one.fail(disc);
+            one.beginMending(disc);
+            one.mend(9);
+            Check.same("balance() with one disc below the others", one.balance(), 9.0 / 12.0);
+        }
         SpreadParity y = new SpreadParity();
         y.fail(1);
         y.write(1, 1);
