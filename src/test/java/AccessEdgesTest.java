@@ -17,6 +17,7 @@ final class AccessEdgesTest {
         writeWithoutParity();
         writeWithDataAlone();
         writeWithoutData();
+        writeWithoutDataAtBothEnds();
         writeWithoutDataAndOther();
         writeWithoutDataAndParity();
         writeWithNothing();
@@ -168,6 +169,29 @@ final class AccessEdgesTest {
         Check.same("unit(1, 0)", x.unit(1, 0), NONE);
         Check.same("peek(0)", x.peek(0), 65535);
         Check.same("peek(1)", x.peek(1), 77);
+    }
+
+    // The first and the last two addresses, whose other data units are on either side.
+    private static void writeWithoutDataAtBothEnds() {
+        int[] addresses = {0, 1, 40, 41};
+        int[] others = {1, 0, 41, 40};
+        for (int i = 0; i < 4; i++) {
+            SpreadParity x = new SpreadParity();
+            x.write(addresses[i], 600);
+            x.write(others[i], 50);
+            int stripe = addresses[i] / 2;
+            int other = x.place(stripe, others[i] % 2) / 10;
+            int parity = x.place(stripe, 2);
+            x.fail(x.place(stripe, addresses[i] % 2) / 10);
+            Check.same("write(" + addresses[i] + ", 65535)", x.write(addresses[i], 65535), 2);
+            Check.same("its parity", x.unit(parity / 10, parity % 10), 65535 ^ 50);
+            Check.same("peek(" + addresses[i] + ")", x.peek(addresses[i]), 65535);
+            Check.same("peek(" + others[i] + ")", x.peek(others[i]), 50);
+            Check.same("reads of the other's disc", x.reads(other), 2);
+            Check.same("reads of the parity's disc", x.reads(parity / 10), 2);
+            Check.same("writes of the other's disc", x.writes(other), 1);
+            Check.same("writes of the parity's disc", x.writes(parity / 10), 3);
+        }
     }
 
     // "Otherwise the write is not possible."
@@ -345,7 +369,7 @@ final class AccessEdgesTest {
         Check.same("unit(0, 0)", y.unit(0, 0), 1);
     }
 
-    // Three failed discs that no stripe avoids, and all discs failed.
+    // Each two stripes share a disc: without the discs of stripe 0 no stripe is whole.
     private static void scrubWithoutAnyStripe() {
         SpreadParity x = new SpreadParity();
         for (int disc = 0; disc < 7; disc++) {
@@ -354,7 +378,13 @@ final class AccessEdgesTest {
         x.fail(0);
         x.fail(1);
         x.fail(3);
-        Check.same("wrong() with the stripes of the discs 2, 4, 5 and 6", x.wrong(), x.scrub());
+        Check.same("wrong()", x.wrong(), 0);
+        Check.same("scrub()", x.scrub(), 0);
+        for (int disc = 0; disc < 7; disc++) {
+            Check.same("reads(" + disc + ")", x.reads(disc), 0);
+            Check.same("writes(" + disc + ")", x.writes(disc), 0);
+        }
+        Check.same("unit(2, 4) keeps its fault", x.unit(2, 4), 5);
         SpreadParity y = new SpreadParity();
         for (int disc = 0; disc < 7; disc++) {
             y.fail(disc);
@@ -516,5 +546,12 @@ final class AccessEdgesTest {
         x.beginMending(2);
         x.mend(8);
         Check.same("worst() where one is being mended", x.worst(), NONE);
+        // A count of 9 is no state of 9.
+        SpreadParity y = new SpreadParity();
+        y.scrub();
+        for (int disc = 0; disc < 7; disc++) {
+            y.fail(disc);
+        }
+        Check.same("worst() where each disc has 9 reads", y.worst(), NONE);
     }
 }

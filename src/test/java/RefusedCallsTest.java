@@ -205,6 +205,7 @@ final class RefusedCallsTest {
             x.addSpare();
             x.addSpare();
             x.corrupt(6, 6, 6);
+            Check.type(x, "f2;w0=");
         });
         all.put("while two discs are being mended", x -> {
             x.write(0, 1);

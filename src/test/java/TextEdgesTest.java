@@ -40,6 +40,7 @@ final class TextEdgesTest {
         runWithSixSavedStates();
         runThatIsRefusedWithSixSavedStates();
         runEmptiesTheBuffer();
+        shorterTextThanBefore();
         longestNumbers();
         Check.end("TextEdgesTest");
     }
@@ -437,6 +438,32 @@ final class TextEdgesTest {
             Check.same("append('1')", x.append('1'), 2);
             Check.same("firstError()", x.firstError(), 2);
         }
+    }
+
+    // No sign of an emptied buffer may come back behind a shorter text.
+    private static void shorterTextThanBefore() {
+        SpreadParity x = with("w0=1234");
+        Check.same("run() of w0=1234", x.run(), 1);
+        Check.type(x, "w0=5");
+        Check.same("firstError() of w0=5", x.firstError(), 4);
+        Check.same("run() of w0=5", x.run(), 1);
+        Check.same("peek(0)", x.peek(0), 5);
+        Check.type(x, "w41=7;c;f1;f2");
+        Check.same("clearText()", x.clearText(), 13);
+        Check.type(x, "w0=6");
+        Check.same("run() of w0=6", x.run(), 1);
+        Check.same("peek(0)", x.peek(0), 6);
+        Check.same("state(1)", x.state(1), 9);
+        Check.type(x, "c;c");
+        x.clearText();
+        Check.type(x, "c");
+        Check.same("run() of c", x.run(), 1);
+        Check.type(x, "f1x");
+        x.clearText();
+        Check.type(x, "f1");
+        Check.same("firstError() of f1", x.firstError(), 2);
+        Check.type(x, ";");
+        Check.noArgument(x, "run() of f1;", x::run);
     }
 
     // Numbers that an int or a long could not hold.

@@ -70,6 +70,7 @@ final class UndoEdgesTest {
             Check.same("peek(0) after undo()", x.peek(0), last - i);
             Check.same("reads(1) after undo()", x.reads(1), last - i);
             Check.same("writes(0) after undo()", x.writes(0), last - i);
+            Check.same("digest() after undo()", x.digest(), written(last - i).digest());
         }
         Check.noState(x, "one undo() more", x::undo);
     }
